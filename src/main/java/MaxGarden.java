@@ -4,7 +4,7 @@ import java.util.NoSuchElementException;
 /** Polynomials, curves, matrices and timetables where sums are the greatest and products are sums. */
 public final class MaxGarden {
   /** Less than all, and so never the greater one of two; it is never added to. */
-  private static final int NOTHING = Integer.MIN_VALUE;
+  private static final int NOTHING = -2147483648;
 
   private static final int POLYS = 10;
   private static final int TOP_POWER = 8;
@@ -15,6 +15,8 @@ public final class MaxGarden {
   private static final int TOP_TOLD = 999;
   private static final int TOP_POINT = 9999;
   private static final long FAR = 1000000000L;
+  /** Below the values of all terms, even times the lower number of a corner. */
+  private static final long LOWEST = -4000000000000000000L;
   /** All 81 terms have 648 letters, 80 signs between them and seven signs at most for a coefficient. */
   private static final int SIGNS = 1300;
 
@@ -1059,13 +1061,13 @@ public final class MaxGarden {
     /** The value at x by d and y by d, times d, so that it stays whole. */
     private long heightOf(int cell, long x, long y, long d) {
       if (cell < 0 || cell >= held.length) {
-        return Long.MIN_VALUE;
+        return LOWEST;
       }
       return held[cell] * d + cell / WIDTH * x + cell % WIDTH * y;
     }
 
     private long heightAt(long x, long y, long d) {
-      long best = Long.MIN_VALUE;
+      long best = LOWEST;
       for (int cell = 0; cell < CELLS; cell++) {
         if (has(cell)) {
           best = Math.max(best, heightOf(cell, x, y, d));

@@ -87,7 +87,7 @@ public final class MaxGardenFace {
     "\\bprotected\\b", "Exact\\b", "\\bequals\\s*\\(", "\\bhashCode\\b", "\\btoString\\b",
     "\\bSystem\\.(?!arraycopy\\b)", "\\bRandom\\b", "\\bThread\\b", "\\bstatic\\s*\\{", "\\bpackage\\b",
     "\\bObject\\b", "\\[\\]\\s*\\[", "\\bString\\b", "\\bMath\\.(?!max\\b|min\\b|abs\\b)",
-    "\\bInteger\\.(?!MIN_VALUE\\b|bitCount\\b)", "\\bLong\\.(?!MIN_VALUE\\b)", "\\bArrays\\.(?!fill\\b|\\s*;)"};
+    "\\bInteger\\.(?!bitCount\\b)", "\\bLong\\.", "\\bArrays\\.(?!fill\\b|\\s*;)"};
 
   private static int wrong = 0;
 

@@ -26,7 +26,7 @@ public final class MaxGardenOracle {
   }
 
   public static void main(String[] arguments) throws Exception {
-    int runs = arguments.length > 0 ? Integer.parseInt(arguments[0]) : 260;
+    int runs = arguments.length > 0 ? Integer.parseInt(arguments[0]) : 700;
     int wrong = 0;
     TreeMap<String, Integer> seen = new TreeMap<>();
     for (int run = 0; run < runs && wrong < 20; run++) {
@@ -154,6 +154,9 @@ public final class MaxGardenOracle {
 
   private Object drawValue(char kind, int style, Model model) {
     boolean isOdd = draw(40) == 0;
+    if (draw(300) == 0 && "pmijcexknrRBs".indexOf(kind) >= 0) {
+      return new int[] {Integer.MIN_VALUE, Integer.MIN_VALUE + 1, Integer.MAX_VALUE - 1, Integer.MAX_VALUE}[draw(4)];
+    }
     switch (kind) {
       case 'p':
         return isOdd ? drawBetween(-1, 10) : draw(Math.max(1, model.polys.size()));

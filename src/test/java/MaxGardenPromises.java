@@ -355,7 +355,11 @@ public final class MaxGardenPromises {
     due(13, false, () -> same.isSame(3, 1));
     due(13, true, () -> same.isSame(4, 5));
     due(13, false, () -> same.isSame(4, 0));
-    refused(13, same, INDEX, () -> same.isSame(6, 0));
+    add(same, t(0, 0, 1), t(2, 0, 2));
+    due(13, false, () -> same.isSame(1, 6));
+    add(same, t(2, 0, 2));
+    due(13, false, () -> same.isSame(1, 7));
+    refused(13, same, INDEX, () -> same.isSame(8, 0));
     refused(13, same, INDEX, () -> same.isSame(0, -1));
   }
 
@@ -434,6 +438,18 @@ public final class MaxGardenPromises {
     due(15, 6, () -> g.root(1, 1, 'n'));
     due(16, 5, () -> g.turnsAnew(1));
     due(14, 1, () -> withPoly(t(0, 0, 0), t(1, 0, 1), t(2, 0, 2), t(3, 0, 3)).roots(0));
+    MaxGarden half = withPoly(t(1, 0, 9), t(7, 0, 5), t(8, 0, -999));
+    due(15, 2, () -> half.root(0, 0, 'n'));
+    due(15, 3, () -> half.root(0, 0, 'd'));
+    due(15, 6, () -> half.root(0, 0, 't'));
+    due(15, 1004, () -> half.root(0, 1, 'n'));
+    due(15, 1, () -> half.root(0, 1, 'd'));
+    due(16, 7, () -> half.turnsAnew(0));
+    MaxGarden far = withPoly(t(0, 0, 999), t(8, 0, -999), t(4, 0, 1));
+    due(15, 499, () -> far.root(0, 0, 'n'));
+    due(15, 2, () -> far.root(0, 0, 'd'));
+    due(15, 250, () -> far.root(0, 1, 'n'));
+    due(16, 8, () -> far.turnsAnew(0));
   }
 
   private static void corners() {
@@ -477,14 +493,10 @@ public final class MaxGardenPromises {
 
     MaxGarden byFractions = withPoly(t(0, 0, 0), t(2, 0, -1), t(0, 2, -1), t(2, 2, -3), t(3, 1, -5));
     due(17, 3, () -> byFractions.corners(0));
-    due(18, "1/2 1/2, 1/1 1/1, 3/1 1/1, ", () -> {
-      StringBuilder text = new StringBuilder();
-      for (int k = 0; k < 3; k++) {
-        int d = byFractions.corner(0, k, 'd');
-        text.append(byFractions.corner(0, k, 'x') + "/" + d + " " + byFractions.corner(0, k, 'y') + "/" + d + ", ");
-      }
-      return text.toString();
-    });
+    due(18, "1/2 1/2, 1/1 1/1, 3/1 1/1, ", () -> places(byFractions, 0));
+
+    due(18, "0/1 0/1, 0/2 1/2, 1/5 1/5, 2/7 1/7, 1/2 -1/2, ", () -> places(withPoly(
+        t(0, 0, 0), t(0, 3, -1), t(1, 0, 0), t(3, 3, -1), t(4, 1, -1), t(3, 0, -1), t(0, 1, 0)), 0));
 
     MaxGarden flat = withPoly(t(0, 1, 0), t(1, 2, 5), t(2, 3, 1));
     add(flat);
@@ -508,6 +520,16 @@ public final class MaxGardenPromises {
     refused(23, flat, INDEX, () -> flat.genus(-1));
     refused(24, flat, INDEX, () -> flat.area(3));
     refused(25, flat, INDEX, () -> flat.areaAnew(3));
+  }
+
+  private static String places(MaxGarden garden, int poly) {
+    StringBuilder text = new StringBuilder();
+    for (int k = 0; k < garden.corners(poly); k++) {
+      int d = garden.corner(poly, k, 'd');
+      text.append(garden.corner(poly, k, 'x')).append('/').append(d).append(' ');
+      text.append(garden.corner(poly, k, 'y')).append('/').append(d).append(", ");
+    }
+    return text.toString();
   }
 
   private static void edges() {
@@ -541,6 +563,11 @@ public final class MaxGardenPromises {
       }
       return text.toString();
     });
+    MaxGarden steep = withPoly(t(0, 0, 0), t(0, 1, 3), t(0, 3, 10), t(0, 4, 12), t(0, 8, 13), t(1, 0, 0));
+    due(12, 5, () -> steep.needed(0));
+    due(17, 3, () -> steep.corners(0));
+    due(21, 5, () -> steep.rays(0));
+    due(22, 2, () -> steep.links(0));
     MaxGarden wide = withPoly(t(0, 0, 0), t(2, 0, 5), t(4, 0, 0), t(0, 4, 0), t(1, 0, 2));
     due(17, 2, () -> wide.corners(0));
     due(21, 4, () -> wide.rays(0));
@@ -634,6 +661,9 @@ public final class MaxGardenPromises {
     due(30, 2, () -> g.clear(5, 5, 0));
     due(30, 2, () -> g.clear(5, 5, 0));
     due(30, 0, () -> g.clear(0, 0, 0));
+    due(29, 1, () -> g.set(0, 0, 0, 4));
+    due(29, 2, () -> g.set(1, 0, 0, 4) + g.clear(0, 0, 0) + g.set(6, 0, 0, 1));
+    due(30, 0, () -> g.clear(1, 0, 0));
     refused(30, g, ARGUMENT, () -> g.clear(5, 6, 0));
     refused(30, g, ARGUMENT, () -> g.clear(5, 0, 6));
     refused(30, g, ARGUMENT, () -> g.clear(1, -1, 0));
@@ -848,9 +878,15 @@ public final class MaxGardenPromises {
     due(41, false, () -> g.isSingular(0));
     refused(40, g, ARGUMENT, () -> g.assigned(0, 3));
     refused(40, g, ARGUMENT, () -> g.assigned(0, -1));
-    refused(40, g, INDEX, () -> g.assigned(1, 3));
-    refused(39, g, INDEX, () -> g.assignment(1));
+    refused(40, g, INDEX, () -> g.assigned(2, 3));
+    refused(39, g, INDEX, () -> g.assignment(2));
     refused(41, g, INDEX, () -> g.isSingular(-1));
+    lay(g, row(0, 0), row(0, 0));
+    due(41, true, () -> g.isSingular(1));
+    due(41, false, () -> g.isSingular(0));
+    due(41, true, () -> g.isSingular(1));
+    due(39, 0, () -> g.assignment(1));
+    due(39, 15, () -> g.assignment(0));
     g.clear(0, 2, 0);
     due(39, 14, () -> g.assignment(0));
     due(41, false, () -> g.isSingular(0));
@@ -925,8 +961,13 @@ public final class MaxGardenPromises {
     refused(43, g, INDEX, () -> g.unlike(1));
     MaxGarden three = withMatrix(row(N, 3, 5), row(N, N, 4), row(N, N, N));
     refused(43, three, MISSING, () -> three.unlike(0));
-    three.clear(0, 0, 2);
-    refused(43, three, UNSUPPORTED, () -> three.unlike(0));
+    for (int k = 0; k < 3; k++) {
+      int a = k / 2;
+      int b = k / 2 + 1 + k % 2;
+      due(30, 2, () -> three.clear(0, a, b));
+      refused(43, three, UNSUPPORTED, () -> three.unlike(0));
+      three.set(0, a, b, 4);
+    }
     MaxGarden one = withMatrix(row(N));
     refused(43, one, MISSING, () -> one.unlike(0));
     MaxGarden six = new MaxGarden();
@@ -1024,6 +1065,7 @@ public final class MaxGardenPromises {
     due(45, 0, () -> g.time(0));
     refused(45, g, ARGUMENT, () -> g.time(2));
     due(47, 1, () -> g.delay(0, 1));
+    due(46, 1, () -> g.go(1));
     due(47, 1000, () -> g.delay(0, 999));
     due(46, 1, () -> g.go(50));
     due(48, 1000, () -> g.time(0));
