@@ -829,7 +829,8 @@ public final class MaxGarden {
   private int areaByCorners(Poly poly) {
     int area = 0;
     for (int k = 0; k < net.count; k++) {
-      area += areaAtCorner(poly, k);
+      net.loadPolygon(poly, k);
+      area += net.polygon.doubledArea();
     }
     return area;
   }
@@ -1270,7 +1271,7 @@ public final class MaxGarden {
       return before > straight;
     }
 
-    /** A side of the whole polygon has terms that are above it; from its end on, the steepest one bounds a corner's. */
+    /** Along a side of the whole polygon, the steepest way from its end is a side of some corner's polygon. */
     private void findFirst(Poly poly) {
       int from = polygon.vertexAt(0);
       int end = polygon.vertexAt(1);
