@@ -1085,10 +1085,10 @@ public final class MaxGardenPromises {
   }
 
   private static void farTimes() {
-    MaxGarden g = withMatrix(row(N, 999), row(-999, N));
+    MaxGarden g = withMatrix(row(999));
     g.begin(0);
-    for (int k = 0; k < 1000; k++) {
-      g.delay(0, 999);
+    for (int k = 0; k < 20; k++) {
+      g.go(50);
     }
     due(47, 999998, () -> g.delay(0, 998));
     due(47, 999998, () -> g.time(0));
@@ -1096,15 +1096,10 @@ public final class MaxGardenPromises {
     refused(47, g, ARGUMENT, () -> g.delay(0, 1000));
     due(47, 999999, () -> g.delay(0, 1));
     refused(47, g, UNSUPPORTED, () -> g.delay(0, 1));
-    due(46, 1, () -> g.go(1));
-    due(48, 999000, () -> g.time(1));
-    due(48, 999, () -> g.time(0));
-    due(47, 999999, () -> g.delay(1, 999));
     refused(46, g, UNSUPPORTED, () -> g.go(1));
     refused(46, g, UNSUPPORTED, () -> g.go(2));
-    due(46, 999999, () -> g.time(1));
-    due(46, 999, () -> g.time(0));
-    due(46, 0, () -> g.late(0));
+    due(46, 999999, () -> g.time(0));
+    due(46, 999, () -> g.late(0));
 
     MaxGarden low = withMatrix(row(N, 1), row(N, -999));
     lay(low, row(999, N), row(N, N));
