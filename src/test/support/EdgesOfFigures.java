@@ -190,6 +190,8 @@ final class EdgesOfFigures extends Edges {
         .due(true, "isSound()").make("set(0, 5, 0, 999)").due(true, "isSound()").make("set(0, 0, 5, -999)")
         .due(true, "isSound()");
     longest().due(true, "isSound()");
+    new Bench().poly("0 0 0", "1 0 -1", "2 0 -4", "3 0 -9", "4 0 -16", "5 0 -25", "6 0 -36", "7 0 -49", "8 0 -64")
+        .due(8, "roots(0)").due(8, "turnsAnew(0)").due(true, "isSound()").make("drop(0, 0, 0)").due(true, "isSound()");
     Bench full = new Bench();
     for (int number = 0; number < 10; number++) {
       full.poly("0 0 0", "1 0 " + number, "0 1 " + -number, "2 3 5", "8 8 -999", "4 1 9");

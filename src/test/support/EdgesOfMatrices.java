@@ -422,7 +422,9 @@ final class EdgesOfMatrices extends Edges {
         .refused(MISSING, "unlike(0)").make("set(0, 0, 2, 6)").due(123, "unlike(0)").make("set(0, 0, 3, 7)")
         .refused(MISSING, "unlike(0)").make("set(0, 0, 3, 8)").due(123, "unlike(0)");
     garden(FAR_APART).make("set(0, 2, 3, 7)").refused(MISSING, "unlike(0)").make("set(0, 1, 0, 999)",
-        "set(0, 3, 2, 999)", "set(0, 0, 0, 999)", "set(0, 3, 0, -999)").refused(MISSING, "unlike(0)");
+        "set(0, 3, 2, 999)", "set(0, 0, 0, 999)", "set(0, 3, 0, -999)").refused(MISSING, "unlike(0)")
+        .make("set(0, 1, 1, 999)", "set(0, 2, 2, 999)", "set(0, 3, 3, 999)").refused(MISSING, "unlike(0)")
+        .make("set(0, 1, 1, -999)", "set(0, 2, 2, -999)", "set(0, 3, 3, -999)").refused(MISSING, "unlike(0)");
     matrixNumbers(43, MATRIX, "unlike(@)", FAR_APART);
     promise(43, "Returns the rows as four digits, rising.");
     garden(". 4 4 4 4 4", ". . 4 4 4 4", ". . . 4 4 5", ". . . . 4 4", ". . . . . 4", ". . . . . .").due(125, "unlike(0)")
@@ -469,7 +471,7 @@ final class EdgesOfMatrices extends Edges {
     matrixNumbers(44, "`other`: that of another one", "isHeld(0, @, 0)", TWO);
     garden(". 3", "1 -5").dueAll("isHeld(0, 0, @)", true, true);
     promise(44, "`column`: a column of the other one");
-    new Bench().matrix(even(1)).matrix(even(2)).matrix("1").due(true, "isHeld(0, 1, 5)")
+    new Bench().matrix(even(1)).matrix(even(2)).matrix("1").due(true, "isHeld(0, 1, 5)").due(true, "isHeld(2, 2, 0)")
         .outside(ARGUMENT, "isHeld(0, 1, @)", 0, 5).outside(ARGUMENT, "isHeld(2, 2, @)", 0, 0);
     promise(44, "Returns true if so; a column without entries is.");
     garden("0 .", ". .").matrix(". .", ". 3").due(true, "isHeld(0, 1, 0)").due(false, "isHeld(0, 1, 1)")
