@@ -403,6 +403,10 @@ final class EdgesOfCurves extends Edges {
         .dueAll("corner(0, @, 'y')", 1, 3).dueAll("corner(0, @, 'n')", 4, 4);
     garden("0 0 0|0 3 -1|1 0 0|3 3 -1|4 1 -1|3 0 -1|0 1 0").dueAll("corner(0, @, 'x')", 0, 0, 1, 2, 1)
         .dueAll("corner(0, @, 'y')", 0, 1, 1, 1, -1).dueAll("corner(0, @, 'd')", 1, 2, 5, 7, 2);
+    garden("0 0 0|0 1 0|0 2 -1|1 2 10").due(2, "corners(0)").dueAll("corner(0, @, 'x')", -11, -10)
+        .dueAll("corner(0, @, 'y')", 1, 0);
+    sameX("0 0 0|0 3 -1|0 5 -2|1 0 0|1 3 -1|1 5 -2", 1, 3, 1, 2);
+    sameX("0 0 0|0 3 7|0 5 10|1 0 0|1 3 7|1 5 10", -7, 3, -3, 2);
     terms("The polygon of a corner is that of the powers of all terms that are the greatest there.");
     garden("0 0 0|4 0 0|0 4 0|1 1 0|2 2 0|1 0 -1").due(16, "corner(0, 0, 'a')").due(5, "corner(0, 0, 'n')")
         .due(3, "corner(0, 0, 'e')").make("term(0, 1, 0, 0)").due(6, "corner(0, 0, 'n')");
@@ -410,6 +414,12 @@ final class EdgesOfCurves extends Edges {
         + "right angle to the side");
     garden("0 0 0|4 0 0|0 4 0|1 0 0|2 0 0|3 0 0|0 2 0|2 2 0").due(3, "corner(0, 0, 'e')").due(3, "rays(0)")
         .due(3, "greatest(0, 1, 1)").due(5, "greatest(0, 0, -1)").due(3, "greatest(0, -1, 0)");
+  }
+
+  /** Two corners at x = 0, which only y can put in order: y by d of the first, then of the second. */
+  private static void sameX(String polynomial, int y, int d, int nextY, int nextD) {
+    garden(polynomial).due(2, "corners(0)").dueAll("corner(0, @, 'x')", 0, 0).dueAll("corner(0, @, 'y')", y, nextY)
+        .dueAll("corner(0, @, 'd')", d, nextD);
   }
 
   private static void fractions(String polynomial, int x, int y, int d) {

@@ -200,6 +200,8 @@ final class EdgesOfFigures extends Edges {
       full.matrix(". " + number + " -4", "2 . .", "7 " + -number + " -9");
     }
     full.due(true, "isSound()");
+    new Bench().matrix("5 2", "1 7").matrix(". 3", ". .").matrix("-9").matrix(".").due(true, "isSound()")
+        .due(7, "mean(0, false)").due(true, "isSound()").due(-9, "meanAnew(2, false)").due(true, "isSound()");
   }
 
   /** Makes a call until it is the 512th, and looks at what that one answers. */
