@@ -312,6 +312,7 @@ final class EdgesOfCurves extends Edges {
     flat().due(128, "areaAnew(0)");
     bent().due(128, "areaAnew(0)");
     garden("8 8 0|0 0 0|8 7 -999").due(8, "areaAnew(0)");
+    garden("0 0 0|0 1 0|0 3 -2|1 3 10").dueAll("corner(0, @, 'a')", 2, 1).due(3, "areaAnew(0)");
     withoutCurve(25, "areaAnew(@)");
   }
 
