@@ -1,3 +1,5 @@
+import com.sun.management.ThreadMXBean;
+import java.lang.management.ManagementFactory;
 import java.util.ArrayList;
 import java.util.List;
 import java.util.Map;
@@ -10,6 +12,8 @@ import java.util.TreeMap;
 public final class MaxGardenFullRuns {
   private static final String[] BEGINNINGS = {"five told polynomials", "twelve told matrices", "both", "products",
       "far coefficients", "far entries", "no room left"};
+
+  private static final long MOST_BYTES = 1000000;
 
   private final Twins twins;
   private final Draw draw;
@@ -45,10 +49,45 @@ public final class MaxGardenFullRuns {
       wrong += run.twins.wrong();
     }
     wrong += runs < 70 ? 0 : Twins.unseenKinds(seen);
+    wrong += isRoomKept() ? 0 : 1;
     System.out.println("full runs: " + runs + " of 512 calls, " + wrong + " wrong");
     if (wrong != 0) {
       System.exit(1);
     }
+  }
+
+  /** The dearest calls make little: products that are refused as there are 12 matrices, and all that isSound looks at. */
+  private static boolean isRoomKept() {
+    ThreadMXBean threads = (ThreadMXBean) ManagementFactory.getThreadMXBean();
+    long thread = Thread.currentThread().getId();
+    long before = threads.getThreadAllocatedBytes(thread);
+    MaxGarden garden = new MaxGarden();
+    garden.poly();
+    for (int cell = 0; cell < 81; cell++) {
+      garden.term(0, cell / 9, cell % 9, -(cell / 9) * (cell / 9) - cell / 9 * (cell % 9) - cell % 9 * (cell % 9));
+    }
+    for (int call = 0; call < 9; call++) {
+      garden.sum(0, call);
+    }
+    for (int call = 0; call < 12; call++) {
+      garden.matrix(6);
+    }
+    for (int call = 0; call < 409; call++) {
+      if (call % 4 > 0) {
+        garden.isSound();
+      } else {
+        try {
+          garden.times(0, 1);
+        } catch (IllegalStateException e) {
+          continue;
+        }
+      }
+    }
+    long made = threads.getThreadAllocatedBytes(thread) - before;
+    if (made > MOST_BYTES) {
+      System.out.println("a run of 512 calls made " + made + " bytes");
+    }
+    return made <= MOST_BYTES;
   }
 
   private void begin() {

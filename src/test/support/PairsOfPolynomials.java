@@ -48,9 +48,9 @@ final class PairsOfPolynomials {
     Checks.wasMet("no corners of the product, " + PolySample.LINE + " and " + PolySample.LINE);
     Checks.wasMet("no meeting, " + PolySample.NONE + " and " + PolySample.ORDINARY);
     Checks.wasMet("no meeting, " + PolySample.FULL + " and " + PolySample.FULL);
-    Checks.wasMet("0 roots");
-    Checks.wasMet("1 roots");
-    Checks.wasMet("8 roots");
+    for (int roots = 0; roots <= 8; roots++) {
+      Checks.wasMet(roots + " roots");
+    }
     Checks.wasMet("the same as another one");
     Checks.wasMet("unlike another one");
   }

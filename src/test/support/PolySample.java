@@ -96,12 +96,29 @@ record PolySample(String kind, String name, int[][] terms, int[][] factor) {
         list.add(of(terms.size() == 1 ? ONE : LINE, "line from " + cell + " by " + step[0] + " " + step[1], terms));
       }
     }
-    for (int power = 1; power <= 8; power++) {
+    for (int top = 1; top <= 8; top++) {
       List<int[]> bent = new ArrayList<>();
-      for (int i = 0; i <= 8; i++) {
-        bent.add(new int[] {i, 0, -i * i * power});
+      for (int i = 0; i <= top; i++) {
+        bent.add(new int[] {i, 0, -i * i * top});
       }
-      list.add(of(LINE, "nine terms of x, bent " + power, bent));
+      list.add(of(LINE, "bent terms of x to " + top, bent));
+    }
+    addOfXAlone(list);
+  }
+
+  /** Small coefficients, so that several terms are often as high as what is between two others, straight on. */
+  private static void addOfXAlone(List<PolySample> list) {
+    Draw draw = new Draw(4);
+    for (int number = 0; number < 60; number++) {
+      int slope = draw.between(-3, 3);
+      int gaps = number % 4;
+      List<int[]> terms = new ArrayList<>();
+      for (int i = 0; i <= 8; i++) {
+        if (draw.below(8) >= gaps) {
+          terms.add(new int[] {i, 0, slope * i - (number < 8 ? 0 : draw.below(2 + number % 3))});
+        }
+      }
+      list.add(of(terms.size() < 2 ? ONE : LINE, "of x alone " + number, terms));
     }
   }
 
